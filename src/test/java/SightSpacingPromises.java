@@ -167,6 +167,7 @@ public final class SightSpacingPromises {
         badText("a b:1;", 1, 2);
         badText("ai:1;", 1, 0);
         badText("ia:1;", 1, 0);
+        badText("az:1;", 1, 0);
         badText("aba:1;", 1, 0);
         badText("ab1;", 1, 2);
         badText("ab;", 1, 2);
@@ -220,6 +221,26 @@ public final class SightSpacingPromises {
         badText("by most", 1, 7);
         badText("by most square;", 1, 8);
         badText("mean 3;", 1, 0);
+        badText("mike 3;", 1, 0);
+        badText("by mostz;", 1, 3);
+    }
+
+    /** What stands behind THE TEXT from an earlier one must not be read; nor what there is no room for. */
+    private static void textsCutShort() {
+        String clauses = "a12345/67890,5; aa : - 12 ; like 34 ; by square ;";
+        for (int n = 0; n <= clauses.length(); n++) {
+            String start = clauses.substring(0, n);
+            SightSpacing x = new SightSpacing();
+            int want = tell(x, start);
+            int place = x.fault();
+            SightSpacing y = new SightSpacing();
+            tell(y, "$" + clauses.substring(1));
+            due(3, "tell() of \"" + start + "\" behind a longer one", tell(y, start), want);
+            due(4, "fault() of \"" + start + "\" behind a longer one", y.fault(), place);
+            SightSpacing z = new SightSpacing();
+            due(3, "tell() of \"" + start + "\" up to 150", tell(z, " ".repeat(150 - n) + start), want);
+            due(4, "fault() of \"" + start + "\" up to 150", z.fault(), place < 0 ? NONE : place + 150 - n);
+        }
     }
 
     private static void telling() {
@@ -227,6 +248,7 @@ public final class SightSpacingPromises {
         badTextsOfLetters();
         badTextsOfPairs();
         badTextsOfTerms();
+        textsCutShort();
         SightSpacing x = new SightSpacing();
         due(3, "tell()", tell(x, "b12345/67890,7;bb:-5;like 8;odd 3;cap 7;aim 25;by square;"), 7);
         due(3, "told(0)", x.told(0), 2);
@@ -250,6 +272,9 @@ public final class SightSpacingPromises {
         due(3, "told(15)", x.told(15), 3);
         due(3, "tell() of nothing", x.tell(), 0);
         due(3, "told(15): a deed, too", x.told(15), 4);
+        due(3, "tell()", tell(x, "a00000/00000,1;ab:7;"), 2);
+        due(3, "pair(0, 1, 1)", x.pair(0, 1, 1), 107);
+        due(3, "pair(1, 0, 1)", x.pair(1, 0, 1), NONE);
     }
 
     private static void faultPlace() {
@@ -360,6 +385,32 @@ public final class SightSpacingPromises {
         y.term(0, 2);
         // Three of the five figures stand alone at most: 0 2, 4 6, 8.
         dueClasses(y, 2, 0, 0, 1, 1, 2, 0, 0, 1);
+        classesAnew();
+    }
+
+    /** CLASSES are asked again behind each deed that may change them. */
+    private static void classesAnew() {
+        SightSpacing x = uniform("08", "00");
+        due(7, "told(1)", x.told(1), 2);
+        x.keep(0);
+        x.letter(1, 0, 0, 1);
+        due(7, "told(1) behind letter", x.told(1), 1);
+        x.undo(1);
+        due(7, "told(1) behind undo", x.told(1), 2);
+        tell(x, "a88888/00000,1;");
+        due(7, "told(1) behind tell", x.told(1), 1);
+        x.goBack(0);
+        due(7, "told(1) behind goBack", x.told(1), 2);
+        x.term(0, 99);
+        due(7, "told(1) behind term", x.told(1), 1);
+        x.term(0, 0);
+        due(7, "told(1) behind term", x.told(1), 2);
+        x.forget(0);
+        due(7, "told(1) behind forget", x.told(1), 1);
+        x.forget(1);
+        due(7, "told(1) behind forget", x.told(1), 0);
+        x.drift(1);
+        due(7, "told(1) behind drift", x.told(1), 1);
     }
 
     private static void fars() {
@@ -413,6 +464,11 @@ public final class SightSpacingPromises {
         duePair(y, 0, 0, 104, 103, 0, 103, 35);
         duePair(y, 1, 0, 109, 109, 1, 103, 45);
         duePair(y, 2, 2, 104, NONE, 0, 103, 35);
+        y.judge(0, 1, 7);
+        y.judge(1, 0, 3);
+        // Twice ODD apart and no more: none is STRANGE.
+        duePair(y, 0, 1, 104, 107, 0, 103, 35);
+        due(9, "told(4)", y.told(4), 0);
         due(9, "pair(0, 3, 0)", y.pair(0, 3, 0), UNKNOWN);
         due(9, "pair(3, 0, 9)", y.pair(3, 0, 9), UNKNOWN);
         due(9, "pair(-1, 0, 0)", y.pair(-1, 0, 0), UNKNOWN);
@@ -466,6 +522,12 @@ public final class SightSpacingPromises {
     }
 
     private static void lines() {
+        SightSpacing one = oneCell(0, 0, 8, -9, 0, 0, 0, 17);
+        String[] few = {"0/0 0", "ab 8", "ac -9", "ca 17"};
+        due(11, "told(4)", one.told(4), 3);
+        for (int l = 0; l < few.length; l++) {
+            dueLine(one, l, few[l]);
+        }
         SightSpacing x = uniform("199", "290");
         x.judge(0, 1, -3);
         x.judge(0, 2, -20);
@@ -640,13 +702,11 @@ public final class SightSpacingPromises {
     }
 
     private static void driftingOn() {
-        SightSpacing x = uniform("00000000", "00000000");
-        x.forget(7);
-        x.keep(0);
         int judgedOnes = 0;
         int others = 0;
         for (int start = 1; start < 120 && (judgedOnes < 3 || others < 3); start++) {
-            x.goBack(0);
+            SightSpacing x = uniform("0000000", "0000000");
+            x.keep(0);
             x.seed(start * 9999991);
             long one = nextSeed(start * 9999991L);
             long two = nextSeed(one);
@@ -767,6 +827,16 @@ public final class SightSpacingPromises {
         y.write(0, 0, 3);
         y.forget(0);
         due(20, "told(14) with its first LETTER gone", y.told(14), 0);
+        SightSpacing z = uniform("36", "31");
+        z.write(0, 1, -3);
+        z.write(1, 0, 2);
+        due(20, "told(14)", z.told(14), NONE);
+        z.tear();
+        z.write(0, 0, 0);
+        due(20, "told(14)", z.told(14), NONE);
+        z.write(1, 0, 0);
+        z.forget(1);
+        due(20, "told(14) of 0 with a LETTER gone", z.told(14), 1);
     }
 
     private static void tearing() {
