@@ -121,14 +121,14 @@ public final class SightSpacing {
     }
 
     public int far(int c, int d, int side) {
-        if (!now.knows(c) || !now.knows(d)) {
+        if (!now.knowsBoth(c, d)) {
             return UNKNOWN;
         }
         return isSide(side) ? now.apart(c, d, side) : OUTSIDE;
     }
 
     public int pair(int c, int d, int what) {
-        if (!now.knows(c) || !now.knows(d)) {
+        if (!now.knowsBoth(c, d)) {
             return UNKNOWN;
         }
         sight.settle();
@@ -218,7 +218,7 @@ public final class SightSpacing {
     }
 
     public int judge(int c, int d, int gap) {
-        if (!now.knows(c) || !now.knows(d)) {
+        if (!now.knowsBoth(c, d)) {
             return UNKNOWN;
         }
         if (gap < -MOST_GAP || gap > MOST_GAP) {
@@ -231,7 +231,7 @@ public final class SightSpacing {
     }
 
     public int withdraw(int c, int d) {
-        if (!now.knows(c) || !now.knows(d)) {
+        if (!now.knowsBoth(c, d)) {
             return UNKNOWN;
         }
         if (!now.isJudged(c, d)) {
@@ -278,7 +278,7 @@ public final class SightSpacing {
     // ---- the book
 
     public int write(int c, int d, int v) {
-        if (!now.knows(c) || !now.knows(d)) {
+        if (!now.knowsBoth(c, d)) {
             return UNKNOWN;
         }
         return book.enter(c, d, v) ? book.count : FULL;
@@ -389,6 +389,10 @@ public final class SightSpacing {
 
         boolean knows(int c) {
             return c >= 0 && c < LETTERS && (known >> c & 1) == 1;
+        }
+
+        boolean knowsBoth(int c, int d) {
+            return knows(c) && knows(d);
         }
 
         int countKnown() {
@@ -826,7 +830,7 @@ public final class SightSpacing {
         private void readPair(int start) {
             int c = text[start] - 'a';
             int d = text[start + 1] - 'a';
-            if (!draft.knows(c) || !draft.knows(d)) {
+            if (!draft.knowsBoth(c, d)) {
                 fail(NOT_KNOWN, start);
             }
             pass(':');
@@ -1014,7 +1018,7 @@ public final class SightSpacing {
 
         int firstWrong(State state, Sight sight) {
             for (int k = 0; k < count; k++) {
-                if (!state.knows(firsts[k]) || !state.knows(seconds[k])
+                if (!state.knowsBoth(firsts[k], seconds[k])
                         || sight.gapOfPair(firsts[k], seconds[k]) != gaps[k]) {
                     return k;
                 }
