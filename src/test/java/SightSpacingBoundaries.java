@@ -429,7 +429,8 @@ public final class SightSpacingBoundaries {
 
     private static void refusedDeeds(Make made) {
         int[][] letters = {{-1, 0, 0, 1}, {8, 0, 0, 1}, {4, -1, 0, 1}, {4, 100000, 0, 1}, {4, 0, -1, 1}, {4, 0, 100000, 1},
-            {0, 0, 0, 0}, {0, 0, 0, 10}, {LEAST, LEAST, LEAST, LEAST}, {MOST, MOST, MOST, MOST}};
+            {0, 0, 0, 0}, {0, 0, 0, 10}, {LEAST, 0, 0, 1}, {MOST, 0, 0, 1}, {9, 0, 0, 1}, {4, LEAST, 0, 1}, {4, MOST, 0, 1},
+            {4, 0, LEAST, 1}, {4, 0, MOST, 1}, {4, 0, 0, LEAST}, {4, 0, 0, MOST}};
         for (int[] k : letters) {
             changesNothing(made, "letter(" + Arrays.toString(k) + ")", x -> x.letter(k[0], k[1], k[2], k[3]), OUTSIDE);
         }
@@ -700,6 +701,16 @@ public final class SightSpacingBoundaries {
         dueText("like most;", -11, 5);
         dueText("sum;", -11, 0);
         dueText("most;", -11, 0);
+        String[] others = {"mike 1;", "lake 1;", "line 1;", "lika 1;", "add 1;", "old 1;", "ode 1;", "tap 1;", "cup 1;", "car 1;",
+            "him 1;", "arm 1;", "aid 1;", "my sum;", "bz sum;"};
+        for (String text : others) {
+            dueText(text, -11, 0);
+        }
+        String[] measures = {"by rum;", "by som;", "by sun;", "by host;", "by mist;", "by moat;", "by moss;", "by zquare;",
+            "by squara;"};
+        for (String text : measures) {
+            dueText(text, -11, 3);
+        }
     }
 
     private static void wordsOfTexts() {
@@ -835,6 +846,17 @@ public final class SightSpacingBoundaries {
         for (int k = 2; k < whole[3].length(); k++) {
             dueText(whole[3].substring(0, k), -11, k > 3 && k < 9 ? 3 : k);
         }
+        String longer = "a12345/67890,5;ab:-12;like 12;by square;";
+        for (int k = 0; k < longer.length(); k++) {
+            SightSpacing fresh = two();
+            int answer = tell(fresh, longer.substring(0, k));
+            SightSpacing used = two();
+            tell(used, "!" + longer.substring(1));
+            due("tell() of the first " + k + " behind a longer text", tell(used, longer.substring(0, k)), answer);
+            due("fault() of the first " + k + " behind a longer text", used.fault(), fresh.fault());
+            int shift = fresh.fault() == NONE ? 0 : 150 - k;
+            dueText(" ".repeat(150 - k) + longer.substring(0, k), answer, fresh.fault() + shift);
+        }
         dueText(" ".repeat(149) + "a", -11, 150);
         dueText(" ".repeat(149) + "!", -11, 149);
         dueText("odd 3; \u007f", -11, 7);
@@ -957,6 +979,7 @@ public final class SightSpacingBoundaries {
         dueClasses(byMost(2, "2406"), 1, "0101");
         // Neighbours alone are LIKE: four are enough if h goes with a, not a with b.
         dueClasses(byMost(1, "12345670"), 1, "01122330");
+        classesAtOnce();
         sentence("Terms", "CLASSES are numbered by their least LETTERS;");
         dueClasses(byMost(0, "75317531"), 1, "01230123");
         SightSpacing y = byMost(0, "7531");
@@ -972,6 +995,59 @@ public final class SightSpacingBoundaries {
         dueClasses(byMost(1, "12345"), 1, "00112");
         dueClasses(byMost(1, "54321"), 1, "00112");
         dueClasses(byMost(1, "13524"), 1, "01201");
+    }
+
+    /** Two LETTERS that are not LIKE, and a deed behind which CLASSES are others, asked at once in each way. */
+    private static void dueAtOnce(String name, Call deed, int count, int gap) {
+        Call[] ways = {x -> x.told(1), x -> x.told(2), x -> x.at(0, 1) == 0 ? count : UNKNOWN, x -> x.at(1, 1) + 1,
+            x -> x.at(1, 2) + 1, x -> x.told(5) == count * count ? count : UNKNOWN,
+            x -> x.cell(count - 1, count - 1, 0) > 0 ? count : UNKNOWN, x -> x.cell(count, 0, 0) == UNKNOWN ? count : UNKNOWN,
+            x -> x.line(count * count - 1, 0) - '0' + 1};
+        for (int k = 0; k < ways.length; k++) {
+            SightSpacing x = uniform("09", "09");
+            x.judge(0, 0, 4);
+            x.keep(1);
+            x.told(1);
+            deed.on(x);
+            due("CLASSES at once behind " + name + ", " + k, ways[k].on(x), count);
+        }
+        Call[] gaps = {x -> x.pair(1, 1, 0), x -> x.word(2, 1, 1, 0, 0, 0) - 1000 + 100 - 2 * x.at(1, 0),
+            x -> x.pair(1, 1, 2) + gap, x -> x.judge(1, 1, gap - 100)};
+        for (int k = 0; k < gaps.length; k++) {
+            SightSpacing x = uniform("09", "09");
+            x.judge(0, 0, 4);
+            x.keep(1);
+            x.told(1);
+            deed.on(x);
+            due("GAP at once behind " + name + ", " + k, gaps[k].on(x), gap);
+        }
+    }
+
+    private static void classesAtOnce() {
+        dueAtOnce("nothing", x -> 0, 2, 100 - 12);
+        dueAtOnce("letter()", x -> x.letter(1, 0, 0, 1), 1, 104);
+        dueAtOnce("term(0, 45)", x -> x.term(0, 45), 1, 104);
+        dueAtOnce("term(0, 9), BY 1", x -> x.term(0, 9) + x.term(4, 1), 1, 104);
+        dueAtOnce("tell()", x -> tell(x, "a99999/99999,1;"), 1, 104);
+        dueAtOnce("letter(), undone", x -> x.letter(1, 0, 0, 1) + x.told(1) + x.undo(1), 2, 100 - 12);
+        dueAtOnce("term(), goBack()", x -> x.term(0, 99) + x.told(1) + x.goBack(1), 2, 100 - 12);
+        SightSpacing x = uniform("09", "09");
+        due("told(1)", x.told(1), 2);
+        x.forget(0);
+        due("told(1) at once behind forget()", x.told(1), 1);
+        SightSpacing y = uniform("0", "0");
+        due("told(1)", y.told(1), 1);
+        y.term(0, 0);
+        Draws draws = new Draws(0);
+        draws.known = 1;
+        draws.times(1);
+        y.drift(1);
+        due("told(1) at once behind drift()", y.told(1), draws.letter == 0 ? 1 : 2);
+        SightSpacing z = uniform("09", "09");
+        due("judge() at once behind letter()", z.judge(0, 0, 1), 101);
+        due("judge() in another CELL", z.judge(1, 1, 4), 104);
+        z.term(0, 99);
+        due("judge() at once behind term(), in the same CELL", z.judge(1, 1, 4), 103);
     }
 
     /** 'a' alone, with 'aa' JUDGED so: WHITE by this gap. */
@@ -1058,6 +1134,19 @@ public final class SightSpacingBoundaries {
         x.judge(3, 1, 5);
         due("cell(1, 1, 1)", x.cell(1, 1, 1), 1);
         due("cell(0, 2, 1): the other way round", x.cell(0, 2, 1), 0);
+        // The pair's own CELL: da and dc are in two, ba and ca in one.
+        x.withdraw(3, 1);
+        x.judge(1, 0, 1);
+        due("pair(2, 0, 0): in the CELL of ba", x.pair(2, 0, 0), 101);
+        x.judge(2, 0, 9);
+        due("pair(2, 0, 2): STRANGE in the CELL of ba", x.pair(2, 0, 2), 1);
+        x.judge(3, 0, 9);
+        due("pair(3, 0, 2): alone in its CELL", x.pair(3, 0, 2), 0);
+        x.judge(1, 2, 9);
+        due("pair(1, 2, 2): alone in its CELL", x.pair(1, 2, 2), 0);
+        due("pair(1, 1, 0): in the CELL of bc", x.pair(1, 1, 0), 109);
+        due("pair(0, 3, 1): not JUDGED", x.pair(0, 3, 1), NONE);
+        due("pair(0, 3, 0): SIGHT", x.pair(0, 3, 0), 97);
         sentence("Terms", "KEPT: as many JUDGED ones of these as can be, no two of whose gaps are more than twice ODD apart; "
                 + "of several choices that with the least gap in it.");
         dueCell(oneCell(2, 1, 5), 0, 0, 9, 2, 2, 103);
@@ -1244,6 +1333,16 @@ public final class SightSpacingBoundaries {
         due("told(14): it is KNOWN again", y.told(14), NONE);
         y.forget(0);
         due("told(14): the first LETTER is not KNOWN", y.told(14), 0);
+        SightSpacing first = two();
+        first.write(1, 0, 6);
+        first.forget(1);
+        due("told(14): the first LETTER alone is not KNOWN", first.told(14), 0);
+        SightSpacing apart = uniform("09", "04");
+        apart.write(0, 1, -3);
+        apart.write(1, 0, 2);
+        due("told(14): each entry is of its own pair", apart.told(14), NONE);
+        apart.write(1, 0, -3);
+        due("told(14)", apart.told(14), 2);
         int[] gaps = {-20, 0, 20};
         for (int gap : gaps) {
             SightSpacing z = two();
