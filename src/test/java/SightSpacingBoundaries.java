@@ -1029,6 +1029,10 @@ public final class SightSpacingBoundaries {
         dueAtOnce("term(0, 45)", x -> x.term(0, 45), 1, 104);
         dueAtOnce("term(0, 9), BY 1", x -> x.term(0, 9) + x.term(4, 1), 1, 104);
         dueAtOnce("tell()", x -> tell(x, "a99999/99999,1;"), 1, 104);
+        dueAtOnce("forget(), letter()", x -> x.forget(1) + x.letter(1, 0, 0, 1), 1, 104);
+        dueAtOnce("forget(), letter(), letter()", x -> x.forget(1) + x.letter(2, 0, 0, 1) + x.letter(1, 0, 0, 1), 1, 104);
+        dueAtOnce("forget(), term()", x -> x.letter(2, 0, 0, 1) + x.forget(2) + x.term(0, 45), 1, 104);
+        dueAtOnce("withdraw(), judge(), term()", x -> x.withdraw(0, 0) + x.judge(0, 0, 4) + x.term(0, 45), 1, 104);
         dueAtOnce("letter(), undone", x -> x.letter(1, 0, 0, 1) + x.told(1) + x.undo(1), 2, 100 - 12);
         dueAtOnce("term(), goBack()", x -> x.term(0, 99) + x.told(1) + x.goBack(1), 2, 100 - 12);
         SightSpacing x = uniform("09", "09");
