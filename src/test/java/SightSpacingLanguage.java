@@ -16,6 +16,7 @@ import java.util.regex.Pattern;
 /** Rules of ../shared/LANGUAGE.md that can be seen from outside: the face, and words that must not stand in the file. */
 public final class SightSpacingLanguage {
     private static final Path SOURCE = Path.of("src/main/java/SightSpacing.java");
+    private static final Path DOCUMENT = Path.of("../shared/DOC.md");
     private static final Set<String> FACE = new TreeSet<>(List.of(
             "feed(1)", "tell(0)", "fault(0)", "told(1)", "edge(3)", "at(2)", "far(3)", "pair(3)", "cell(3)", "line(2)",
             "word(6)", "letter(4)", "forget(1)", "judge(3)", "withdraw(2)", "term(2)", "drift(1)", "undo(1)",
@@ -52,7 +53,33 @@ public final class SightSpacingLanguage {
         }
         hold(1, "the constants are the document's: " + constants, constants.equals(CONSTANTS));
         Constructor<?>[] made = x.getDeclaredConstructors();
+        hold(1, "the constructor takes nothing", made.length == 1 && made[0].getParameterCount() == 0);
         hold(1, "one public constructor", made.length == 1 && Modifier.isPublic(made[0].getModifiers()));
+    }
+
+    /** The face as ../shared/DOC.md writes it is the one that is told here. */
+    private static void faceOfDocument() throws IOException, ReflectiveOperationException {
+        if (!Files.exists(DOCUMENT)) {
+            System.out.println("no " + DOCUMENT + ": the face is not compared with it");
+            return;
+        }
+        Matcher block = Pattern.compile("(?s)```java\n(.*?)```").matcher(Files.readString(DOCUMENT));
+        String face = block.find() ? block.group(1) : "";
+        Set<String> methods = new TreeSet<>();
+        Matcher method = Pattern.compile("public int (\\w+)\\(((?:int \\w+(?:, )?)*)\\);").matcher(face);
+        while (method.find()) {
+            methods.add(method.group(1) + "(" + (method.group(2).isEmpty() ? 0 : method.group(2).split(",").length) + ")");
+        }
+        hold(1, "the document's methods are " + methods, methods.equals(FACE));
+        Matcher constant = Pattern.compile("\\b([A-Z]+) = (-\\d+)[,;]").matcher(face);
+        Set<String> constants = new TreeSet<>();
+        while (constant.find()) {
+            constants.add(constant.group(1));
+            int value = SightSpacing.class.getField(constant.group(1)).getInt(null);
+            hold(1, constant.group() + " is so", value == Integer.parseInt(constant.group(2)));
+        }
+        hold(1, "the document's constants are " + constants, constants.equals(CONSTANTS));
+        hold(1, "the document's face is short", face.lines().count() == FACE.size() + 4);
     }
 
     private static List<Class<?>> classes() {
@@ -122,8 +149,9 @@ public final class SightSpacingLanguage {
         }
     }
 
-    public static void main(String[] args) throws IOException {
+    public static void main(String[] args) throws IOException, ReflectiveOperationException {
         face();
+        faceOfDocument();
         members();
         String code = code();
         words(code);
